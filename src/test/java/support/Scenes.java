@@ -1,0 +1,48 @@
+/** Grids that several tests look at. */
+final class Scenes {
+    private Scenes() {
+    }
+
+    /**
+     * Only the cells 0 and 1 are free, and only neighbours turn needles. The cell 1 sees nothing but the needle
+     * of the cell 0, as those of 2 and 7 are opposite; the cell 0 turns from 0 to 1, and a step later 1 does.
+     */
+    static NeedleGrid follower() {
+        NeedleGrid grid = heldByNeighboursAlone(0, 1);
+        grid.needle(0, 0);
+        grid.needle(1, 0);
+        grid.needle(2, 0);
+        grid.needle(7, 4);
+        grid.needle(6, 2);
+        return grid;
+    }
+
+    /**
+     * Only the cells 7 and 8 are free. The other neighbours of each add up to nothing, so that each of the two
+     * turns to where the other one points, and both swing for ever.
+     */
+    static NeedleGrid swinging() {
+        NeedleGrid grid = heldByNeighboursAlone(7, 8);
+        grid.needle(1, 1);
+        grid.needle(6, 4);
+        grid.needle(13, 6);
+        grid.needle(2, 1);
+        grid.needle(9, 4);
+        grid.needle(14, 6);
+        grid.needle(7, 0);
+        grid.needle(8, 1);
+        return grid;
+    }
+
+    private static NeedleGrid heldByNeighboursAlone(int one, int other) {
+        NeedleGrid grid = new NeedleGrid();
+        grid.set(0, 0);
+        grid.set(2, 1);
+        for (int cell = 0; cell < 36; cell++) {
+            grid.hold(cell, cell != one && cell != other);
+        }
+        grid.friction(one, 0);
+        grid.friction(other, 0);
+        return grid;
+    }
+}
