@@ -4,6 +4,7 @@ public final class WhatWouldBeTest {
 
     public static void main(String[] args) {
         restsIn();
+        restsInAHundred();
         points();
         ifBar();
         ifBarInPlaceOfAnother();
@@ -38,6 +39,21 @@ public final class WhatWouldBeTest {
         CHECK.due("swings for ever", swinging.restsIn(), NeedleGrid.NONE);
         swinging.hold(7, true);
         CHECK.due("one held", swinging.restsIn(), 1);
+    }
+
+    private static void restsInAHundred() {
+        NeedleGrid grid = Scenes.restsBehind101();
+        CHECK.due("101 steps are too many", grid.restsIn(), NeedleGrid.NONE);
+        grid.step(1);
+        CHECK.due("100 are not", grid.restsIn(), 100);
+        grid.step(50);
+        CHECK.due("half of them", grid.restsIn(), 50);
+        grid.step(49);
+        CHECK.due("needles that would turn", grid.count(5) > 0, true);
+        CHECK.due("the last one", grid.restsIn(), 1);
+        grid.step(1);
+        CHECK.due("at rest", grid.restsIn(), 0);
+        CHECK.due("no needle would turn", grid.count(5), 0);
     }
 
     private static void points() {
@@ -211,6 +227,6 @@ public final class WhatWouldBeTest {
 
     private static void digestDue(String state, NeedleGrid grid, String buffer) {
         Check.type(grid, buffer);
-        CHECK.due("digest with " + state, grid.digest(), Digests.byTheDocument(grid, buffer));
+        CHECK.due("digest with " + state, grid.digest(), Digests.byTheDocument(new Digests.Asked(grid), buffer));
     }
 }

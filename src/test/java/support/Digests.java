@@ -6,8 +6,66 @@ final class Digests {
     private Digests() {
     }
 
-    /** Makes some 350 calls, so an object bears it once. The buffer is told, as no call shows it. */
-    static long byTheDocument(NeedleGrid grid, String buffer) {
+    /** The calls of an object; some 350 of them make a digest, so an object bears that once. */
+    record Asked(NeedleGrid grid) implements Looks {
+        @Override
+        public int count(int what) {
+            return grid.count(what);
+        }
+
+        @Override
+        public int setting(int setting) {
+            return grid.setting(setting);
+        }
+
+        @Override
+        public int cell(int cell, int what) {
+            return grid.cell(cell, what);
+        }
+
+        @Override
+        public int barOf(int place, int what) {
+            return grid.barOf(place, what);
+        }
+
+        @Override
+        public int pointing(int direction) {
+            return grid.pointing(direction);
+        }
+
+        @Override
+        public int restsIn() {
+            return grid.restsIn();
+        }
+
+        @Override
+        public int points(int cell, int steps) {
+            return grid.points(cell, steps);
+        }
+
+        @Override
+        public int ifBar(int cell, int direction, int strength) {
+            return grid.ifBar(cell, direction, strength);
+        }
+
+        @Override
+        public int bestBar(int cell, int direction, int strength) {
+            return grid.bestBar(cell, direction, strength);
+        }
+
+        @Override
+        public int leastTurns(int cell) {
+            return grid.leastTurns(cell);
+        }
+
+        @Override
+        public double obedience() {
+            return grid.obedience();
+        }
+    }
+
+    /** The buffer is told, as no call shows it. */
+    static long byTheDocument(Looks grid, String buffer) {
         List<Long> values = new ArrayList<>();
         for (int what = 0; what <= 8; what++) {
             values.add((long) grid.count(what));

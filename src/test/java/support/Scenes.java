@@ -34,6 +34,22 @@ final class Scenes {
         return grid;
     }
 
+    /** Found by a search: it comes to rest behind 101 steps, and not before. */
+    static NeedleGrid restsBehind101() {
+        int[] needles = {2, 1, 0, 0, 0, 5, 7, 3, 4, 5, 3, 1, 6, 3, 0, 7, 5, 2,
+            0, 4, 1, 1, 2, 6, 6, 6, 1, 2, 5, 5, 6, 2, 3, 0, 3, 5};
+        int[] frictions = {17, 3, 8, 4, 15, 8, 8, 14, 7, 10, 4, 9, 17, 4, 17, 2, 1, 18,
+            15, 2, 15, 10, 12, 18, 11, 4, 7, 17, 2, 2, 7, 13, 8, 5, 6, 1};
+        NeedleGrid grid = new NeedleGrid();
+        grid.set(0, 2);
+        grid.set(2, 5);
+        for (int cell = 0; cell < 36; cell++) {
+            grid.needle(cell, needles[cell]);
+            grid.friction(cell, frictions[cell]);
+        }
+        return grid;
+    }
+
     private static NeedleGrid heldByNeighboursAlone(int one, int other) {
         NeedleGrid grid = new NeedleGrid();
         grid.set(0, 0);
