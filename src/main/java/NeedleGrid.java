@@ -365,7 +365,13 @@ public final class NeedleGrid {
         for (int direction = 0; direction < DIRECTIONS; direction++) {
             hash = mixed(hash, pointing(direction));
         }
-        hash = withWhatWouldBe(hash);
+        hash = mixed(hash, restsIn());
+        hash = mixed(hash, points(0, 9));
+        hash = mixed(hash, points(14, 9));
+        hash = mixed(hash, points(35, 9));
+        hash = mixed(hash, ifBar(14, 2, 20));
+        hash = mixed(hash, bestBar(20, 0, 30));
+        hash = mixed(hash, leastTurns(7));
         hash = mixed(hash, bitsOf(obedience()));
         return withBuffer(hash);
     }
@@ -389,16 +395,6 @@ public final class NeedleGrid {
             }
         }
         return hash;
-    }
-
-    private long withWhatWouldBe(long before) {
-        long hash = mixed(before, restsIn());
-        hash = mixed(hash, points(0, 9));
-        hash = mixed(hash, points(14, 9));
-        hash = mixed(hash, points(35, 9));
-        hash = mixed(hash, ifBar(14, 2, 20));
-        hash = mixed(hash, bestBar(20, 0, 30));
-        return mixed(hash, leastTurns(7));
     }
 
     private long withBuffer(long before) {
@@ -876,10 +872,10 @@ public final class NeedleGrid {
         private static final int ROW = 1;
         private static final int LETTER = 2;
         private static final int STRENGTH = 3;
-        private static final int SECOND_DIGIT = 4;
-        private static final int SEPARATOR = 5;
+        /** A further digit of the strength, or what stands between the parts. */
+        private static final int BEHIND_STRENGTH = 4;
 
-        /** What is due next; a SEPARATOR may stand for a SECOND_DIGIT, too. */
+        /** What is due next. */
         private int due;
         private int parts;
         private int column;
@@ -907,7 +903,7 @@ public final class NeedleGrid {
                     return goOn(STRENGTH, direction >= 0 && direction < DIRECTIONS);
                 case STRENGTH:
                     strength = digit;
-                    return goOn(SECOND_DIGIT, digit >= 1 && digit <= 9);
+                    return goOn(BEHIND_STRENGTH, digit >= 1 && digit <= 9);
                 default:
                     return takeBehindStrength(code);
             }
@@ -919,11 +915,9 @@ public final class NeedleGrid {
                 return goOn(COLUMN, parts <= MOST_BARS);
             }
             int digit = code - '0';
-            if (due != SECOND_DIGIT || digit < 0 || digit > 9) {
-                return false;
-            }
+            // A third digit needs no look of its own: with it, the strength is 100 at least.
             strength = 10 * strength + digit;
-            return goOn(SEPARATOR, strength <= MOST_STRENGTH);
+            return goOn(BEHIND_STRENGTH, digit >= 0 && digit <= 9 && strength <= MOST_STRENGTH);
         }
 
         private boolean goOn(int nextDue, boolean isGood) {
@@ -932,7 +926,7 @@ public final class NeedleGrid {
         }
 
         boolean isBehindStrength() {
-            return due == SECOND_DIGIT || due == SEPARATOR;
+            return due == BEHIND_STRENGTH;
         }
 
         void layInto(Grid grid) {

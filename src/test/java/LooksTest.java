@@ -7,6 +7,7 @@ public final class LooksTest {
         cell();
         barOf();
         count();
+        countFromTheFirstCellToTheLast();
         pointing();
         setting();
         changeNothing();
@@ -95,6 +96,22 @@ public final class LooksTest {
         CHECK.outOfRange(grid, "count(9)", () -> grid.count(9));
         CHECK.outOfRange(grid, "count(-1)", () -> grid.count(-1));
         CHECK.outOfRange(grid, "count of the least", () -> grid.count(Integer.MIN_VALUE));
+    }
+
+    private static void countFromTheFirstCellToTheLast() {
+        for (int cell = 0; cell < 36; cell += 35) {
+            NeedleGrid grid = new NeedleGrid();
+            grid.needle(cell, 3);
+            CHECK.due("would turn: " + cell, grid.count(5), 1);
+            CHECK.due("point to their aim, but " + cell, grid.count(6), 35);
+            CHECK.due("away: " + cell, grid.count(7), 3);
+            CHECK.due("pointing: " + cell, grid.pointing(3), 1);
+            grid.hold(cell, true);
+            CHECK.due("held: " + cell, grid.count(4), 1);
+            grid.bar(cell, 1, 1);
+            CHECK.due("bars: " + cell, grid.count(1), 1);
+            CHECK.due("the bar's cell", grid.barOf(0, 0), cell);
+        }
     }
 
     private static void pointing() {

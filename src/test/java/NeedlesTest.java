@@ -8,6 +8,7 @@ public final class NeedlesTest {
         needleTurnsItsNeighbours();
         friction();
         frictionHoldsAWeakField();
+        frictionHoldsTheWeakestFields();
         hold();
         swap();
         CHECK.end("NeedlesTest");
@@ -119,6 +120,23 @@ public final class NeedlesTest {
         CHECK.due("3 and 29 are above 31", grid.cell(14, 6), 1);
         grid.friction(14, 32);
         CHECK.due("but not above 32", grid.cell(14, 6), 0);
+    }
+
+    /** The weakest fields, by the coil alone, of 1 or of 1 and 1. */
+    private static void frictionHoldsTheWeakestFields() {
+        for (int direction = 0; direction < 8; direction++) {
+            NeedleGrid grid = new NeedleGrid();
+            grid.set(0, 0);
+            grid.set(1, 1);
+            grid.set(2, 0);
+            grid.coil(1, direction);
+            grid.needle(14, (direction + 2) % 8);
+            int size = 1 + direction % 2;
+            grid.friction(14, size);
+            CHECK.due("a field of " + size + " to " + direction + " is held", grid.cell(14, 6), 0);
+            grid.friction(14, size - 1);
+            CHECK.due("a field of " + size + " to " + direction + " turns", grid.cell(14, 6), 1);
+        }
     }
 
     private static void hold() {

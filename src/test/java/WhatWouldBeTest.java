@@ -9,6 +9,8 @@ public final class WhatWouldBeTest {
         ifBar();
         ifBarInPlaceOfAnother();
         bestBar();
+        bestBarAtTheEdge();
+        nothingIsLeftOfABarTakenAway();
         bestBarOfOthers();
         leastTurns();
         obedience();
@@ -124,6 +126,28 @@ public final class WhatWouldBeTest {
         CHECK.outOfRange(grid, "bestBar(0, 0, 51)", () -> grid.bestBar(0, 0, 51));
     }
 
+    /** At the cell 20 the bar at 0 to 4 adds 115 of 230 with strength 30, and 111 of 223 with 29. */
+    private static void bestBarAtTheEdge() {
+        NeedleGrid grid = emptyField();
+        grid.set(0, 47);
+        CHECK.due("12 * 47 is at most 5 * 115", grid.bestBar(20, 0, 30), 4);
+        CHECK.due("it is above 5 * 111", grid.bestBar(20, 0, 29), 8 + 4);
+        grid.set(0, 48);
+        CHECK.due("12 * 48 is above 5 * 115", grid.bestBar(20, 0, 30), 8 + 4);
+    }
+
+    private static void nothingIsLeftOfABarTakenAway() {
+        NeedleGrid grid = emptyField();
+        grid.bar(20, 3, 50);
+        grid.unbar(20);
+        NeedleGrid without = emptyField();
+        without.needle(0, 6);
+        without.needle(0, 6);
+        CHECK.due("ifBar where one lay", grid.ifBar(20, 0, 1), without.ifBar(20, 0, 1));
+        CHECK.due("bestBar where one lay", grid.bestBar(21, 0, 1), without.bestBar(21, 0, 1));
+        CHECK.due("digest where one lay", grid.digest(), without.digest());
+    }
+
     /** The answer is the first bar that, when it is really laid, gives the aim. */
     private static void bestBarOfOthers() {
         for (int direction = 0; direction < 8; direction++) {
@@ -197,6 +221,22 @@ public final class WhatWouldBeTest {
             digestDue(obeying + " needles that obey", withObeying(obeying), "");
         }
         digestDue("all of it", withAllOfIt(), "~");
+        for (int steps = 1; steps <= 50; steps++) {
+            NeedleGrid turning = Scenes.restsBehind101();
+            turning.step(steps);
+            digestDue(steps + " steps", turning, "");
+        }
+        for (int earth = 0; earth <= 200; earth++) {
+            NeedleGrid under = withAllOfIt();
+            under.set(0, earth);
+            digestDue("the earth " + earth, under, "");
+        }
+        for (int earth = 47; earth <= 48; earth++) {
+            NeedleGrid narrow = new NeedleGrid();
+            narrow.set(2, 0);
+            narrow.set(0, earth);
+            digestDue("bars that just do, and just do not, against the earth " + earth, narrow, "");
+        }
         NeedleGrid stepped = withAllOfIt();
         stepped.step(1);
         digestDue("a step", stepped, "");
