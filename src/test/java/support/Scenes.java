@@ -3,6 +3,30 @@ final class Scenes {
     private Scenes() {
     }
 
+    /** A grid whose field comes from bars and the coil alone, of which there are none yet. */
+    static NeedleGrid withoutField() {
+        NeedleGrid grid = new NeedleGrid();
+        grid.set(0, 0);
+        grid.set(2, 0);
+        return grid;
+    }
+
+    /** A grid that knows no other field than the earth's, so that a needle turns no other. */
+    static NeedleGrid earthAlone() {
+        NeedleGrid grid = new NeedleGrid();
+        grid.set(2, 0);
+        return grid;
+    }
+
+    /** Six bars in the cells 0 to 5, pointing right, with the strengths 1 to 6. */
+    static NeedleGrid sixBars() {
+        NeedleGrid grid = new NeedleGrid();
+        for (int cell = 0; cell < 6; cell++) {
+            grid.bar(cell, 0, cell + 1);
+        }
+        return grid;
+    }
+
     /**
      * Only the cells 0 and 1 are free, and only neighbours turn needles. The cell 1 sees nothing but the needle
      * of the cell 0, as those of 2 and 7 are opposite; the cell 0 turns from 0 to 1, and a step later 1 does.
