@@ -185,6 +185,11 @@ final class BarSentences {
         barDue(check, grid, 0, 14, 2, 1);
         check.due("nothing is left of its field: x", grid.cell(15, 3), 100000);
         check.due("the other's field: y", grid.cell(15, 4), 100000 - 50);
+        NeedleGrid empty = Scenes.withoutField();
+        empty.bar(0, 4, 50);
+        empty.unbar(0);
+        check.due("a weak one would turn all others, from none", empty.ifBar(0, 4, 1), 35);
+        check.due("a weak one alone would lie there", empty.bestBar(1, 4, 1), 4);
     }
 
     private static void unbarOfTheFirstAndTheLastCell(Check check) {

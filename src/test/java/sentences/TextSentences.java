@@ -283,6 +283,18 @@ final class TextSentences {
         check.due("the new one alone", grid.barOf(0, 0), 35);
         check.due("no second one", grid.barOf(1, 0), NeedleGrid.NONE);
         check.due("nothing is left of their field", grid.cell(6, 3), 100000 + 2);
+        NeedleGrid rows = new NeedleGrid();
+        for (int row = 0; row < 6; row++) {
+            rows.bar(row * 6 + 4, 0, 1);
+        }
+        Check.type(rows, "55a1");
+        check.due("one in each row is taken away", rows.bars(), 1);
+        NeedleGrid far = Scenes.withoutField();
+        far.bar(0, 4, 50);
+        Check.type(far, "55e1");
+        far.bars();
+        check.due("the far one's field", far.cell(1, 3), 100000 + 1);
+        check.due("a weak one alone would lie where one lay", far.bestBar(1, 4, 1), 4);
     }
 
     private static void barsLaysThose(Check check) {

@@ -50,6 +50,7 @@ final class TurningSentences {
             NeedleGrid grid = coilAndEarth(50, direction, 0);
             aimDue(check, "of 50 to " + direction, grid, 0, direction);
             aimDue(check, "of 50 to " + direction, grid, 35, direction);
+            aimDue(check, "of the neighbours' to " + direction, Scenes.neighboursAlone(direction), 14, direction);
         }
     }
 

@@ -231,6 +231,8 @@ final class WhatWouldBeSentences {
         NeedleGrid empty = Scenes.withoutField();
         empty.coil(1, 2);
         check.due("the cells beside it would aim up, not down", empty.ifBar(14, 2, 50), 13);
+        check.due("neighbours to the right are stronger", Scenes.neighboursAlone(0).ifBar(14, 0, 1), 0);
+        check.due("neighbours up are stronger", Scenes.neighboursAlone(6).ifBar(14, 6, 1), 0);
     }
 
     private static void oneForNoneAndNoneForOne(Check check) {
@@ -324,6 +326,8 @@ final class WhatWouldBeSentences {
         NeedleGrid far = Scenes.withoutField();
         far.bar(35, 3, 50);
         check.due("a bar elsewhere stays", far.bestBar(34, 3, 1), 0);
+        check.due("any, with neighbours to the left", Scenes.neighboursAlone(4).bestBar(14, 4, 1), 0);
+        check.due("any, with neighbours up", Scenes.neighboursAlone(6).bestBar(14, 6, 1), 0);
     }
 
     private static void bestBarAsASeventh(Check check) {
@@ -399,6 +403,15 @@ final class WhatWouldBeSentences {
         check.due("right and up: 12 * 8 is at most 5 * 20, 12 * 10 above 5 * 22", grid.leastTurns(14), 5);
         grid.coil(0, 1);
         check.due("right and down: 12 * (2n - 12) is above 5 * 2n", grid.leastTurns(14), 11);
+        againstNeighbours(check, 0);
+        againstNeighbours(check, 2);
+    }
+
+    private static void againstNeighbours(Check check, int direction) {
+        NeedleGrid grid = Scenes.neighboursAlone((direction + 4) % 8);
+        grid.set(1, 20);
+        grid.coil(0, direction);
+        check.due("to " + direction + ", 11 times 20 against 200 of the neighbours", grid.leastTurns(14), 11);
     }
 
     private static void noLeastTurns(Check check) {

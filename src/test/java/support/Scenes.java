@@ -18,6 +18,17 @@ final class Scenes {
         return grid;
     }
 
+    /** All needles point to one side, and each turns its neighbours by 50: 200 in the middle, 100 in the corners. */
+    static NeedleGrid neighboursAlone(int direction) {
+        NeedleGrid grid = new NeedleGrid();
+        grid.set(0, 0);
+        grid.set(2, 50);
+        for (int cell = 0; cell < 36; cell++) {
+            grid.needle(cell, direction);
+        }
+        return grid;
+    }
+
     /** Six bars in the cells 0 to 5, pointing right, with the strengths 1 to 6. */
     static NeedleGrid sixBars() {
         NeedleGrid grid = new NeedleGrid();
